@@ -78,6 +78,10 @@ public final class CarriageTest {
 
     private static void restByMoves() {
         TypebarWorks x = new TypebarWorks();
+        x.space();
+        Check.same("10: a space at the tick 0", x.rest(), 0);
+        x.home();
+        Check.same("10: a return at the tick 0", x.rest(), 0);
         x.bar(0, 'a', 'A');
         x.stop(100, true);
         x.stop(120, true);
@@ -231,7 +235,9 @@ public final class CarriageTest {
             y.space();
         }
         Check.same("13: at first not at 148", y.rings(), 0);
-        y.space();
+        y.half();
+        Check.same("13: at first not at 149", y.rings(), 0);
+        y.half();
         Check.same("13: at first at 150", y.rings(), 1);
     }
 

@@ -12,13 +12,16 @@ public final class ReadingTest {
         mark();
         pitch();
         pitchBySixths();
+        pitchOfThisPage();
         causes();
         causeOfTypical();
         causeByLowestPlace();
         causeOfOneSign();
         causeOfLevel();
+        causeAtTheEdges();
         sample();
         likeness();
+        likenessAtTheEdges();
         likenessBits();
         whose();
         Check.end();
@@ -233,6 +236,71 @@ public final class ReadingTest {
         print(x, 5, true, 1, 0);
         Check.letter("37: up by another number", x.cause('A'), 's');
         Check.letter("37: both ways", x.cause('B'), 's');
+    }
+
+    private static void causeAtTheEdges() {
+        TypebarWorks x = new TypebarWorks();
+        x.dead(20, '!', 'A');
+        x.dead(21, '"', '~');
+        x.level(-3);
+        print(x, 20, true, -3, 0);
+        Check.letter("37: the first sign is not there", x.cause('A'), 'l');
+        print(x, 21, true, -2, 0);
+        Check.letter("37: -6 and, of the last sign, -5", x.cause('A'), 's');
+        print(x, 21, true, -3, 0);
+        Check.letter("37: -6 both", x.cause('~'), 'l');
+        x.level(3);
+        x.page();
+        print(x, 20, true, 3, 0);
+        print(x, 21, true, 3, 0);
+        print(x, 21, true, -3, 0);
+        print(x, 21, true, 3, 0);
+        Check.letter("37: 6 both", x.cause('A'), 'l');
+        print(x, 20, false, 0, 0);
+        x.page();
+        Check.fails("37: the first sign is there no more", NONE, () -> x.cause('!'));
+        print(x, 20, false, 1, 0);
+        print(x, 20, false, 1, 0);
+        x.page();
+        print(x, 20, false, 0, 0);
+        Check.letter("37: by this page alone", x.cause('!'), '-');
+        Check.fails("36: by this page alone", NONE, x::pitch);
+        print(x, 20, false, 0, 0);
+        x.page();
+        print(x, 20, false, 1, 0);
+        Check.letter("37: not by a mark of the page before", x.cause('!'), 's');
+        x.page();
+        print(x, 20, false, 0, 2);
+        Check.letter("37: the first sign to the side", x.cause('!'), 's');
+    }
+
+    private static void likenessAtTheEdges() {
+        TypebarWorks x = new TypebarWorks();
+        x.dead(20, '!', '~');
+        print(x, 20, false, 0, 0);
+        x.sample();
+        print(x, 20, true, 1, 0);
+        Check.same("39: the first sign", x.likenessBits(0), Float.floatToIntBits(1.0f));
+        Check.same("40: the sample 0", x.whose(), 0);
+        x.sample();
+        x.page();
+        print(x, 20, true, 1, 0);
+        Check.same("39: the last sign", x.likenessBits(1), Float.floatToIntBits(1.0f));
+        Check.same("40: the sample 1", x.whose(), 1);
+        print(x, 20, false, 1, 0);
+        Check.same("39: the last sign alone", x.likenessBits(1), Float.floatToIntBits(0.5f));
+        Check.same("39: not the first one", x.likenessBits(0), 0);
+    }
+
+    private static void pitchOfThisPage() {
+        TypebarWorks x = withBars();
+        x.strike(0, 50);
+        x.half();
+        x.strike(0, 50);
+        Check.same("36: 3", x.pitch(), 3);
+        x.page();
+        x.strike(0, 50);
+        Check.fails("36: a new page", NONE, x::pitch);
     }
 
     private static void sample() {

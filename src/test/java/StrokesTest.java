@@ -358,6 +358,11 @@ public final class StrokesTest {
         x.home();
         Check.letter("31: home again", x.strike(5, 0), 'p');
         Check.same("31: no tick", x.now(), 10);
+        TypebarWorks y = withBars();
+        y.strike(0, 0);
+        y.free();
+        y.home();
+        Check.letter("31: home at the tick 0", y.strike(0, 0), 'p');
     }
 
     private static void now() {

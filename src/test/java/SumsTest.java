@@ -81,6 +81,14 @@ public final class SumsTest {
             due = 31 * due + number;
         }
         Check.same("43: marks, bars, carriage, ribbon", x.checksum(), due);
+        x.page();
+        x.bar(0, 'a', 'A');
+        x.dead(23, '"', '`');
+        x.strike(0, 50);
+        x.strike(23, 50);
+        x.page();
+        Check.same("43: the first and the last place", x.checksum(),
+                (((((7L * 31 + 1) * 31 + 1) * 31 + 2) * 31 + 1) * 31 + 0) * 31 + 5);
     }
 
     private static void isTrue() {
@@ -104,5 +112,17 @@ public final class SumsTest {
         x.strike(20, 20);
         Check.same("44: the other side", x.isTrue(), true);
         Check.same("44: as far as can be there", x.mark(0, 'x'), -3);
+        x.lines(3);
+        x.home();
+        for (int index = 0; index < 6; index++) {
+            x.roll(30);
+        }
+        x.roll(15);
+        x.stop(199, true);
+        x.tab();
+        x.strike(20, 20);
+        Check.same("44: the last sixth", x.mark(1, 'r'), 399);
+        Check.same("44: the last half step", x.mark(1, 'c'), 199);
+        Check.same("44: within the page", x.isTrue(), true);
     }
 }
