@@ -43,8 +43,8 @@ public final class CarriageTest {
 
     private static void escapes() {
         Check.same("9: at first", new TypebarWorks().escapeBits(), Float.floatToIntBits(3.0f));
-        TypebarWorks x = new TypebarWorks();
         for (int load = 0; load <= 99; load++) {
+            TypebarWorks x = new TypebarWorks();
             for (int spring = 1; spring <= 50; spring++) {
                 int ticks = x.carriage(load, spring);
                 Check.same("8: escape of " + load + " by " + spring, ticks, (20 + load + spring - 1) / spring);

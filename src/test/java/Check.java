@@ -32,6 +32,13 @@ final class Check {
         }
     }
 
+    static void text(String what, String got, String due) {
+        seen++;
+        if (!got.equals(due)) {
+            tell(what + " gave \"" + got + "\", due is \"" + due + "\"");
+        }
+    }
+
     static void fails(String what, Class<? extends RuntimeException> due, Call call) {
         seen++;
         try {
