@@ -34,10 +34,17 @@ final class Probe {
 
     /** Looks that a machine for which a call was refused answers, in each way, as one without that call. */
     static void unchanged(String what, Supplier<TypebarWorks> made, Consumer<TypebarWorks> refused) {
-        for (int way = 0; way < WAYS.size(); way++) {
+        alike(what, () -> {
             TypebarWorks touched = made.get();
             Machines.thrownBy(touched, refused);
-            Check.text(what + ", way " + way, read(touched, WAYS.get(way)), read(made.get(), WAYS.get(way)));
+            return touched;
+        }, made);
+    }
+
+    /** Looks that two machines answer alike in each way. */
+    static void alike(String what, Supplier<TypebarWorks> one, Supplier<TypebarWorks> other) {
+        for (int way = 0; way < WAYS.size(); way++) {
+            Check.text(what + ", way " + way, read(one.get(), WAYS.get(way)), read(other.get(), WAYS.get(way)));
         }
     }
 
@@ -57,6 +64,7 @@ final class Probe {
         all.add(Probe::stops);
         all.add(Probe::moves);
         all.add(Probe::bell);
+        all.add(Probe::bellFurtherOn);
         all.add(Probe::samples);
         all.add(Probe::falls);
         all.add(Probe::likenesses);
@@ -174,11 +182,22 @@ final class Probe {
     }
 
     private static void bell(Reader r) {
-        TypebarWorks x = r.x;
-        x.page();
-        for (int step = 0; step < 200; step++) {
-            r.note(x::half);
-            r.note(x::rings);
+        r.x.page();
+        ringBy(r, 100);
+    }
+
+    private static void bellFurtherOn(Reader r) {
+        r.x.page();
+        for (int step = 0; step < 47; step++) {
+            r.note(r.x::space);
+        }
+        ringBy(r, 104);
+    }
+
+    private static void ringBy(Reader r, int halfSteps) {
+        for (int step = 0; step < halfSteps; step++) {
+            r.note(r.x::half);
+            r.note(r.x::rings);
         }
     }
 
