@@ -428,12 +428,17 @@ public final class StrokeEdgesTest {
             x.strike(20, 50);
         }
         x.carriage(99, 1);
+        x.margins(0, 199, 30);
+        Machines.goUpTo(x, 167);
         Check.letter("a print", x.strike(0, 50), 'p');
+        Check.same("the bell", x.rings(), 1);
+        x.margins(0, 199, 29);
         Check.letter("a skip", x.strike(5, 10), 's');
+        Check.same("the bell by a skip", x.rings(), 2);
         Check.letter("a clash", x.strike(0, 0), 'c');
         Check.letter("jammed", x.strike(0, 0), 'j');
         Check.same("marks", x.marks(), 60);
-        Check.same("column", x.column(), 4);
+        Check.same("column", x.column(), 171);
         Check.same("true", x.isTrue(), true);
     }
 }
