@@ -1,3 +1,4 @@
+import java.util.List;
 import java.util.NoSuchElementException;
 import java.util.function.Consumer;
 import java.util.function.Supplier;
@@ -13,6 +14,10 @@ public final class RefusalTest {
     private static final Class<UnsupportedOperationException> UNSUPPORTED = UnsupportedOperationException.class;
     private static final Class<NoSuchElementException> NONE = NoSuchElementException.class;
     private static final Class<ArithmeticException> ARITHMETIC = ArithmeticException.class;
+
+    // ways to change a machine so that most calls are refused all the same
+    private static final List<Consumer<TypebarWorks>> STIRS = List.of(x -> x.shift(false), RefusalTest::jam,
+            TypebarWorks::home, RefusalTest::release, RefusalTest::goOnByCells, x -> x.roll(3), TypebarWorks::sample);
 
     public static void main(String[] args) {
         bars();
@@ -40,6 +45,37 @@ public final class RefusalTest {
         Check.fails(what, due, () -> call.accept(x));
         Check.fails(what + ", again", due, () -> call.accept(x));
         Probe.unchanged(what, made, call);
+        for (int index = 0; index < STIRS.size(); index++) {
+            Supplier<TypebarWorks> stirred = stirred(made, STIRS.get(index));
+            if (due.getSimpleName().equals(Machines.thrownBy(stirred.get(), call))) {
+                Probe.unchanged(what + ", stirred by " + index, stirred, call);
+            }
+        }
+    }
+
+    private static Supplier<TypebarWorks> stirred(Supplier<TypebarWorks> made, Consumer<TypebarWorks> stir) {
+        return () -> {
+            TypebarWorks x = made.get();
+            Machines.thrownBy(x, stir);
+            return x;
+        };
+    }
+
+    /** Jams by dead bars, so that the carriage stays where it is. */
+    private static void jam(TypebarWorks x) {
+        x.strike(20, 50);
+        Check.same("jammed", "cj".indexOf(x.strike(23, 0)) >= 0, true);
+    }
+
+    private static void release(TypebarWorks x) {
+        x.release();
+        x.shift(true);
+    }
+
+    private static void goOnByCells(TypebarWorks x) {
+        for (int print = 0; print < 4 && x.cell() != 1; print++) {
+            x.strike(20, 50);
+        }
     }
 
     private static void bars() {
@@ -146,6 +182,9 @@ public final class RefusalTest {
         refused("decimal to where it is", NONE, () -> States.releasedAt(50), x -> x.decimal(5));
         refused("decimal to below that", NONE, () -> States.releasedAt(50), x -> x.decimal(6));
         refused("decimal with a later stop", NONE, () -> States.releasedAt(29), x -> x.decimal(1));
+        Supplier<TypebarWorks> notReleased = stirred(States::unshifted, x -> Machines.goUpTo(x, 60));
+        refused("tab, not released", NONE, notReleased, TypebarWorks::tab);
+        refused("decimal, not released", NONE, notReleased, x -> x.decimal(0));
     }
 
     private static void spaces() {
@@ -156,10 +195,19 @@ public final class RefusalTest {
         refused("a space from 199", UNSUPPORTED, () -> States.releasedAt(199), TypebarWorks::space);
         refused("a space from 198", UNSUPPORTED, () -> States.releasedAt(198), TypebarWorks::space);
         refused("a half space from 199", UNSUPPORTED, () -> States.releasedAt(199), TypebarWorks::half);
+        refused("a space from 198, not released", UNSUPPORTED, RefusalTest::openAtTheEnd, TypebarWorks::space);
         refused("a space locked under way", STATE, () -> States.lockedUnderWay(20, 20), TypebarWorks::space);
         refused("a half space locked under way", STATE, () -> States.lockedUnderWay(20, 19), TypebarWorks::half);
         refused("a space from 199 under way", UNSUPPORTED, () -> States.movingTo(199), TypebarWorks::space);
         refused("a half space from 199 under way", UNSUPPORTED, () -> States.movingTo(199), TypebarWorks::half);
+    }
+
+    /** At 198, not released, and not locked. */
+    private static TypebarWorks openAtTheEnd() {
+        TypebarWorks x = States.unshifted();
+        x.margins(3, 199, 2);
+        Machines.goUpTo(x, 198);
+        return x;
     }
 
     private static TypebarWorks nearTheStart(int column) {
@@ -227,6 +275,7 @@ public final class RefusalTest {
             refused("strike above 199 behind 100 from " + at, ARGUMENT, made, x -> x.strike(1, 100));
             refused("strike no place from " + at, INDEX, made, x -> x.strike(24, 50));
         }
+        refused("print above 199, not released", UNSUPPORTED, RefusalTest::openAtTheEnd, x -> x.strike(1, 50));
         refused("skip above 199", UNSUPPORTED, () -> States.movingTo(198), x -> x.strike(1, 50));
     }
 
@@ -245,15 +294,24 @@ public final class RefusalTest {
         refused("nothing of mark -1", INDEX, States::withPage, x -> x.mark(-1, 'q'));
         refused("nothing of mark 1", INDEX, States::withPage, x -> x.mark(1, 'q'));
         refused("nothing of mark 0", ARGUMENT, States::withPage, x -> x.mark(0, 'q'));
+        refused("mark 60", INDEX, States::busy, x -> x.mark(60, 's'));
     }
 
     private static void readings() {
         refused("pitch of no mark", NONE, States::withEmptyPage, TypebarWorks::pitch);
+        refused("pitch of no mark, jammed", NONE, RefusalTest::jammedWithEmptyPage, TypebarWorks::pitch);
         refused("pitch of one mark", NONE, States::withPage, TypebarWorks::pitch);
         refused("cause of a sign that is not there", NONE, States::withPage, x -> x.cause('b'));
         refused("cause of a sign without a bar", NONE, States::withPage, x -> x.cause('z'));
         refused("cause of no sign", NONE, States::withPage, x -> x.cause(' '));
         refused("cause of a sign whose bar is gone", NONE, RefusalTest::withoutItsBar, x -> x.cause('A'));
+    }
+
+    /** With an empty page, jammed, so that the page has to be taken behind that. */
+    private static TypebarWorks jammedWithEmptyPage() {
+        TypebarWorks x = States.jammed();
+        x.page();
+        return x;
     }
 
     private static TypebarWorks withoutItsBar() {
@@ -269,6 +327,7 @@ public final class RefusalTest {
         refused("likeness of 4 of 4", INDEX, States::withFourSamples, x -> x.likenessBits(4));
         refused("whose without a sample", NONE, States::withoutStrokes, TypebarWorks::whose);
         refused("whose of an empty page", NONE, States::withEmptyPage, TypebarWorks::whose);
+        refused("whose of an empty page, jammed", NONE, RefusalTest::jammedWithEmptyPage, TypebarWorks::whose);
         refused("whose of several", NONE, States::withFourSamples, TypebarWorks::whose);
     }
 

@@ -9,6 +9,7 @@ final class States {
     static TypebarWorks withoutBars() {
         TypebarWorks x = new TypebarWorks();
         set(x);
+        setLater(x);
         return x;
     }
 
@@ -17,7 +18,16 @@ final class States {
         TypebarWorks x = Machines.withBars();
         set(x);
         setBars(x);
+        setLater(x);
         return x;
+    }
+
+    /** What is set between strokes where there are any. */
+    private static void setLater(TypebarWorks x) {
+        x.carriage(40, 7);
+        x.colour('r');
+        x.shift(true);
+        x.level(2);
     }
 
     private static void set(TypebarWorks x) {
